@@ -184,6 +184,9 @@ public final class PromiseTests {
         fault("(l))", 3);
         fault("((((((l))))))", -1);
         fault("(((((((l)))))))", 6);
+        fault("1?((((((l))))))", -1);
+        fault("1?(((((((l)))))))", 8);
+        fault("0;((((((l))))))?!!!!!!l", -1);
         fault("!!!!!!l", -1);
         fault("!!!!!!!l", 6);
         fault("------l", -1);
@@ -371,6 +374,13 @@ public final class PromiseTests {
         due("waits end at 99", x.day(0, 60, 2, 0), 99);
         CrossroadsChoose none = crossing();
         none.row(0, 0, 5);
+        none.road(1, 1);
+        due("unlike of one road", none.unlike(0, 5), 0);
+        none.road(1, 1);
+        due("unlike of two", none.unlike(0, 1), 1);
+        due("unlike of two", none.unlike(0, 2), 0);
+        none = crossing();
+        none.row(0, 0, 5);
         due("last without roads", none.last(0, 5), NOT);
         due("unlike without roads", none.unlike(0, 5), 0);
     }
@@ -440,6 +450,20 @@ public final class PromiseTests {
         due("again 100", y.again(100), 100);
         Due.tell(y, "r=1?-1;0");
         due("again never", y.again(100), NOT);
+        againLate();
+    }
+
+    /** 0 has him till 2 comes between, then 3 till 2 comes between once more, then 4. */
+    private static void againLate() {
+        CrossroadsChoose x = crossing(0, 0, 0, 0, 0);
+        Due.tell(x, "r=0?(w=0)*9;r=2?(w=99)*10;r=3?(w=0|w=99)*9;r=4?2;0");
+        x.mend(2, 3, 1);
+        x.mend(3, 3, 1);
+        due("again 200", x.again(400), 200);
+        due("again of 3", x.again(300), 100);
+        x.mend(2, 3, 0);
+        due("again 201 is too late", x.again(400), NOT);
+        due("waits are as they were", x.of(4, 3), 0);
     }
 
     private static void promises17And18() {
@@ -543,6 +567,13 @@ public final class PromiseTests {
         due("more for 0", x.more(0), 0);
         due("more for 1", x.more(100), 5);
         due("more for 2", x.more(200), 7);
+        x.mend(0, 3, 3);
+        due("more, 9 at most: 9 0 for 5 1 3, ties", x.more(200), NOT);
+        x.mend(2, 0, 1);
+        due("more, 9 at most", x.more(200), 9);
+        due("whatever, 9 at most", x.whatever(2, 3), 9);
+        x.mend(2, 0, 0);
+        x.mend(0, 3, 0);
         due("more of a runner", x.more(90), 0);
         due("more of a runner", x.more(190), NOT);
         x.mend(0, 1, 6);
@@ -590,6 +621,8 @@ public final class PromiseTests {
         due("waited road ahead", x.waited(0, -1, 0), BAD);
         due("liking what", x.liking(0, 0, 2), BAD);
         due("waited what", x.waited(0, 0, -1), BAD);
+        due("waited what", x.waited(0, 0, 2), BAD);
+        due("liking what", x.liking(0, 0, -1), BAD);
         Due.row(x, 0);
         due("judge of an empty row", x.judge(0), NOT);
         due("liking of an empty row", x.liking(0, 1, 0), 10);

@@ -1,6 +1,6 @@
 /** What the tests have in common: they count answers that are not due, and end with 1 if there was one. */
 final class Due {
-    private static int asked = 0, wrong = 0;
+    private static int asked = 0, wrong = 0, sentences = 0, askedAhead = 0;
     private static String group = "";
 
     private Due() {
@@ -8,6 +8,21 @@ final class Due {
 
     static void group(String name) {
         group = name;
+    }
+
+    /** A sentence of the document, whose test follows; one that asks nothing is wrong. */
+    static void says(String sentence) {
+        endSentence();
+        group = sentence;
+        sentences++;
+        askedAhead = asked;
+    }
+
+    private static void endSentence() {
+        if (sentences > 0 && asked == askedAhead) {
+            wrong++;
+            System.out.println(group + ": has no test");
+        }
     }
 
     static void due(String call, long got, long want) {
@@ -19,7 +34,9 @@ final class Due {
     }
 
     static void end(String name) {
-        System.out.println(name + ": " + asked + " asked, " + wrong + " wrong");
+        endSentence();
+        String of = sentences > 0 ? " of " + sentences + " sentences" : "";
+        System.out.println(name + ": " + asked + " asked" + of + ", " + wrong + " wrong");
         if (wrong != 0 || asked == 0) {
             System.exit(1);
         }

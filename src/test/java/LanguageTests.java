@@ -2,14 +2,10 @@ import java.lang.reflect.Constructor;
 import java.lang.reflect.Field;
 import java.lang.reflect.Method;
 import java.lang.reflect.Modifier;
-import java.nio.file.Files;
-import java.nio.file.Path;
 import java.util.Arrays;
 import java.util.TreeSet;
-import java.util.regex.Matcher;
-import java.util.regex.Pattern;
 
-/** What ../shared/LANGUAGE.md forbids and a test can see: the face by reflection, the rest by the source's text. */
+/** What ../shared/LANGUAGE.md says of the face and of what is hidden, by reflection; SourceTests has the rest. */
 public final class LanguageTests {
     private static final String[] FACE = {
         "int road(int,int)", "int roads(int,int,int)", "int mend(int,int,int)", "int of(int,int)", "int feed(int)",
@@ -23,21 +19,14 @@ public final class LanguageTests {
         "int put(int,int,long)", "long element(int,int)", "int shift(int,int,int,int,int)", "int taken(int,int)",
         "int count(int)"};
     private static final String[] CONSTANTS = {"BAD", "NOT", "FULL", "STATE", "VOID"};
-    private static final String[] FORBIDDEN = {"throw", "throws", "try", "catch", "synchronized", "assert", "->",
-        "::", "volatile", "native", "package", "extends", "Object", "System\\.(?!arraycopy)", "float", "double",
-        "\\w+Exact", "Random", "Thread", "\"", "instanceof", "@"};
 
-    public static void main(String[] args) throws Exception {
+    public static void main(String[] args) {
         Due.group("face");
         face();
         for (Class<?> inner : CrossroadsChoose.class.getDeclaredClasses()) {
             inner(inner);
         }
         Due.due("classes", 1 + CrossroadsChoose.class.getDeclaredClasses().length <= 12 ? 1 : 0, 1);
-        String path = args.length > 0 ? args[0] : "src/main/java/CrossroadsChoose.java";
-        String source = Files.readString(Path.of(path));
-        Due.group("text");
-        text(source.replaceAll("(?s)/\\*.*?\\*/", "").replaceAll("//[^\n]*", "").replaceAll("'.'", "0"));
         Due.end("LanguageTests");
     }
 
@@ -105,34 +94,5 @@ public final class LanguageTests {
             }
         }
         Due.due("fields of " + of, own <= 20 ? 1 : 0, 1);
-    }
-
-    private static void text(String source) {
-        for (String word : FORBIDDEN) {
-            String pattern = Character.isLetter(word.charAt(0)) ? "\\b" + word + "\\b" : word;
-            pattern = word.startsWith("System") ? "\\b" + word : pattern;
-            Matcher found = Pattern.compile(pattern).matcher(source);
-            Due.due("found " + word, found.find() ? 1 : 0, 0);
-        }
-        Matcher imports = Pattern.compile("(?m)^import (.*);").matcher(source);
-        while (imports.find()) {
-            Due.due("import " + imports.group(1), imports.group(1).equals("java.util.Arrays") ? 1 : 0, 1);
-        }
-        int began = -1, at = 0;
-        boolean constructs = false;
-        for (String line : source.split("\n")) {
-            at++;
-            if (line.matches("( {4}| {8})(?! |for |if |while |switch |\\}).*\\) \\{")) {
-                began = at;
-                constructs = line.matches(".*\\b[A-Z]\\w*\\(.*") && !line.contains("=");
-            }
-            if (line.matches(" {4,8}}") && began >= 0) {
-                Due.due("lines of the method at " + began, at - began <= 60 ? 1 : 0, 1);
-            }
-            if (line.contains("new ")) {
-                boolean field = line.matches("( {4}| {8})private .*;");
-                Due.due("made in no call, line " + at, field || constructs ? 1 : 0, 1);
-            }
-        }
     }
 }

@@ -1,6 +1,7 @@
 /** Runs of drawn calls, each answered by the program and by the model; the draws are the same every time. */
 public final class ModelTests {
-    private static final int RUNS = 300, CALLS = 512;
+    /** An object is used for at most 512 calls; one draw makes up to 200 of them. */
+    private static final int RUNS = 900, CALLS = 512 - 200;
     private static final int[] EDGES = {Integer.MIN_VALUE, -101, -100, -2, -1, 0, 1, 2, 5, 6, 7, 9, 10, 54, 60, 61,
         99, 100, 127, 128, 200, 512, 599, 600, 3060, 3100, Integer.MAX_VALUE - 1, Integer.MAX_VALUE};
     private static final String[] LAWS = {"l", "w", "d", "p", "c", "r", "l+w+d-p", "l*2+w*w-p*d+c%(r+2)",
@@ -11,16 +12,21 @@ public final class ModelTests {
     private static long state = 20261118L;
     private static CrossroadsChoose x;
     private static Model model;
+    private static int calls = 0, most = 0;
 
     public static void main(String[] args) {
         for (int run = 0; run < RUNS; run++) {
             Due.group("run " + run);
             x = new CrossroadsChoose();
             model = new Model();
-            for (int i = 0; i < CALLS; i++) {
+            calls = 0;
+            while (calls < CALLS) {
                 call(run);
             }
+            most = Math.max(most, calls);
         }
+        Due.group("calls of one object");
+        Due.due("512 at most", most <= 512 ? 1 : 0, 1);
         Due.end("ModelTests");
     }
 
@@ -35,6 +41,7 @@ public final class ModelTests {
     }
 
     private static void due(String name, long got, long want, long... with) {
+        calls++;
         Due.due(name + java.util.Arrays.toString(with), got, want);
     }
 
@@ -98,8 +105,7 @@ public final class ModelTests {
         StringBuilder text = new StringBuilder();
         if (draw(3) > 0) {
             text.append(LAWS[draw(LAWS.length)]);
-            x.law();
-            model.law();
+            due("law", x.law(), model.law());
         } else if (draw(2) == 0) {
             expression(text, 6);
         }
@@ -114,7 +120,7 @@ public final class ModelTests {
         for (int i = 0; i < text.length(); i++) {
             due("feed", x.feed(text.charAt(i)), model.feed(text.charAt(i)), text.charAt(i));
         }
-        Due.due("law of " + model.tape, x.law(), model.law());
+        due("law of " + model.tape, x.law(), model.law());
     }
 
     private static void expression(StringBuilder text, int depth) {

@@ -217,6 +217,15 @@ public final class DeedEdgeTests extends Edges {
         x.back();
         due("of(2, 3)", x.of(2, 3), 77);
         due("of(0, 3)", x.of(0, 3), 1);
+        says("ROADS that came since: WAIT as it is: where none were there");
+        CrossroadsChoose none = new CrossroadsChoose();
+        none.image();
+        none.road(1, 1);
+        none.road(1, 1);
+        none.send(1);
+        due("back()", none.back(), 0);
+        due("of(0, 3)", none.of(0, 3), 1);
+        due("of(1, 3)", none.of(1, 3), 0);
         says("AN IMAGE keeps WAITS and LED alone: the law stays as it is");
         x.law();
         tell(x, "42");
@@ -394,8 +403,8 @@ public final class DeedEdgeTests extends Edges {
         due("count(2)", x.count(2), 40);
         for (int i = 39; i >= 0; i--) {
             due("undo()", x.undo(), i);
+            due("of(0, 2)", x.of(0, 2), i + 1);
         }
-        due("of(0, 2)", x.of(0, 2), 1);
         due("no more", x.undo(), STATE);
         says("CHANGES of unlike numbers, when the first are gone");
         x = roads(0, 0);
@@ -424,8 +433,8 @@ public final class DeedEdgeTests extends Edges {
         }
         for (int i = 39; i >= 0; i--) {
             due("redo()", x.redo(), i);
+            due("of(0, 2)", x.of(0, 2), 45 - i);
         }
-        due("of(0, 2)", x.of(0, 2), 45);
         due("no more", x.redo(), STATE);
         due("count(2)", x.count(2), 40);
         says("CHANGES: another, where 40 are kept and one was UNDONE");

@@ -98,6 +98,11 @@ public final class LawEdgeTests extends Edges {
         fault("1??2", 2);
         fault("1?2?3", 3);
         fault("0;1?2?3", 5);
+        says("LINE: each E of the two is whole");
+        stands("1|2?3|4", "1&2|3<4?5+6*7|8&9", "1?2|3&4;5|6?7|8");
+        worth("0|1?0|5", 1);
+        worth("1?0|0&1", 0);
+        fault("1?2||3", 4);
         says("E = A { | A }");
         stands("1|2", "1|2|3|4");
         fault("|1", 0);
@@ -243,6 +248,9 @@ public final class LawEdgeTests extends Edges {
         stands("((((((l))))))?((((((l))))))", "((((((l))))));((((((l))))))", "!(((((l)))))-(!(!(!l)))");
         fault("((((((l))))))+(((((((l)))))))", 20);
         fault("0?1;(((((((l)))))))", 10);
+        fault("1?(((((((l)))))))", 8);
+        fault("1?!!!!!!!l", 8);
+        fault("(((((((l)))))))?1", 6);
         fault("(((((!l)))))*!!!!!!!l", 19);
         stands("(((((l)*!(l)))))");
         fault("((((((l)*!(l))))))", 10);

@@ -478,8 +478,20 @@ public final class ShelfEdgeTests extends Edges {
             due("shift(1, 0, " + other + ", 0, -1)", x.shift(1, 0, other, 0, -1), OTHER_KIND);
             due("shift(" + other + ", 0, 1, 0, 1)", x.shift(other, 0, 1, 0, 1), OTHER_KIND);
         }
-        says("Promise 43: -12 (of unlike sorts), ahead of -13");
+        says("Promise 43: -12 (no ROWS): a BODY and a ROW of bytes");
         x.row(0, 0, 9);
+        for (int n = -1; n <= 1; n++) {
+            due("shift(1, 0, 0, 0, " + n + ")", x.shift(1, 0, 0, 0, n), OTHER_KIND);
+            due("shift(0, 0, 1, 0, " + n + ")", x.shift(0, 0, 1, 0, n), OTHER_KIND);
+        }
+        says("Promise 43: -12 (no ROWS): a BODY where a ROW of bytes was");
+        x.row(1, 0, 9);
+        x.keep(1, 0);
+        for (int n = -1; n <= 1; n++) {
+            due("shift(1, 0, 0, 0, " + n + ")", x.shift(1, 0, 0, 0, n), OTHER_KIND);
+            due("shift(0, 0, 1, 0, " + n + ")", x.shift(0, 0, 1, 0, n), OTHER_KIND);
+        }
+        says("Promise 43: -12 (of unlike sorts), ahead of -13");
         int[] rows = {0, 2, 3, 4, 5};
         for (int shelf : rows) {
             for (int other : rows) {

@@ -554,6 +554,12 @@ public final class VoteEdgeTests extends Edges {
         x.mend(1, 3, 1);
         due("days of two, who waited one", x.drawn(0, 3002, 1), 30);
         due("in thought alone", x.of(1, 3), 1);
+        says("DRAWN: WAITS are as now ahead of each day: of the first ROAD, too");
+        tell(x, "r=0?w=2;1");
+        due("days of two", x.drawn(0, 3002, 0), 0);
+        tell(x, "r=0?2*(w=2);1");
+        due("days of three", x.drawn(0, 3003, 0), 30);
+        due("days of four", x.drawn(0, 3004, 0), 30);
     }
 
     private static void drawnNumbers() {
@@ -565,6 +571,10 @@ public final class VoteEdgeTests extends Edges {
         due("30 of 1", x.drawn(9, 3001, 1), 30);
         due("1 of 60", x.drawn(9, 160, 1), 60);
         due("of another", x.drawn(9, 3060, 2), 0);
+        due("of ROAD 0", x.drawn(9, 3060, 0), 0);
+        tell(x, "r=0");
+        due("of ROAD 0", x.drawn(9, 3060, 0), 1800);
+        tell(x, "r=1");
         says("DRAWN: WORTH of all together (road -1)");
         due("1 of 1", x.drawn(9, 101, -1), -99);
         due("30 of 60", x.drawn(9, 3060, -1), -178200);
